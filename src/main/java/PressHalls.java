@@ -201,10 +201,9 @@ public final class PressHalls {
         int to = 0;
         boolean found = false;
         for (int k = 0; k < now.jobs && !(found && manner == FIRST); k++) {
-            int firstTo = manner == FAR ? 0 : k + 1;
-            int lastTo = manner == FAR ? now.jobs - 1 : Math.min(k + 1, now.jobs - 1);
-            for (int l = firstTo; l <= lastTo; l++) {
-                int moved = movedCost(k, l);
+            for (int l = 0; l < now.jobs; l++) {
+                boolean offered = manner == FAR || l == k + 1;
+                int moved = offered ? movedCost(k, l) : least;
                 if (moved < least) {
                     least = moved;
                     from = k;
@@ -891,7 +890,6 @@ public final class PressHalls {
             firstFree = other.firstFree;
             secondFree = other.secondFree;
             arrives = other.arrives;
-            ends = other.ends;
             flow = other.flow;
             late = other.late;
         }

@@ -179,6 +179,8 @@ public final class PromiseTests {
         dueRead(x, "m3;a9;j31,0,0;j0,99,0;c200;d300;m0", 1);
         due("mode", x.told(1), 0);
         due("two jobs", x.count(0), 2);
+        dueRead(x, "d00;d07", 2);
+        due("DUE was 0 and is 7", x.of(0, 5), 7);
         dueRead(x, "c200;j1,1,1;c212", 2);
         due("cleaning, by the later clause", x.of(2, 3), 1);
         dueRead(x, "j1,1,1;j1,1,1;j1,1,1;j1,1,1", 3);
@@ -198,10 +200,10 @@ public final class PromiseTests {
     private static void faults(PressHalls x) {
         String[] texts = {"", "x", "j", "j,", "j1", "j123", "j1,2", "j1,2,", "j1,2,3,", "j1,2,345", "j1,2,3 ", " m1",
             "c", "c0", "c01", "c0123", "c0,1", "d", "d0", "d0123", "d;", "m", "m12", "m-1", "a", "a1;", "a1;;", "m1m2",
-            "m1;x", "M1", "m1;j1,1", "a1,"};
+            "m1;x", "M1", "m1;j1,1", "a1,", "j1,234"};
         int[] places = {0, 0, 1, 1, 2, 3, 4, 5, 6, 7, 6, 0,
             1, 2, 3, 4, 2, 1, 2, 4, 1, 1, 2, 1, 1, 3, 3, 2,
-            3, 0, 7, 2};
+            3, 0, 7, 2, 5};
         for (int i = 0; i < texts.length; i++) dueRead(x, texts[i], -10 - places[i]);
         x.feed('m');
         x.feed(0);
@@ -281,6 +283,8 @@ public final class PromiseTests {
         duePlan(x, 2, 0, 1);
         // From 1 0 2 two moves make FLOW 29: 1 to the end (0 2 1), 2 to the front (2 1 0).
         arrange(x, 1, 0, 2);
+        due("no neighbours", x.step(0, 1), 0);
+        due("no neighbours", x.step(1, 1), 0);
         due("far, of several", x.step(2, 1), 1);
         duePlan(x, 0, 2, 1);
         due("manner 3", x.step(3, 0), BAD);
@@ -345,6 +349,10 @@ public final class PromiseTests {
         dueTimes(x, 2, 6, 8, 8, 8, 20, 22, -77);
         x.plan(1);
         dueTimes(x, 2, 0, 2, 2, 2, 2, 4, -95);
+        PressHalls y = new PressHalls();
+        y.set(0, 1);
+        y.job(0, 2, 1);
+        dueTimes(y, 0, 0, 0, 0, 2, 2, 3, -96);
         due("what 7", x.time(0, 7), NO);
         due("what -1", x.time(0, -1), NO);
         due("job 3", x.time(3, 0), NO);
@@ -369,6 +377,10 @@ public final class PromiseTests {
         // Cleaning of the last one is behind the latest ENDS; that of job 2 (9 behind 4) is no waiting.
         x.renew(1, 4, 9);
         due("WAITED", x.told(6), 7);
+        // 2 ends at 4, 0 from 7 to 8, 1 begins again at 11: 16 less 8, less 3.
+        x.renew(0, 4, 3);
+        due("WAITED, cleaning of the last but one", x.told(6), 5);
+        x.renew(0, 4, 0);
         x.renew(2, 4, 9);
         // 2 ends at 4, 0 from 13 to 14, 1 begins again at 14: 19 less 8, less 9.
         due("WAITED with cleaning", x.told(6), 2);
@@ -398,6 +410,9 @@ public final class PromiseTests {
         due("bound", x.told(5), 22);
         x.renew(0, 1, 0);
         due("bound, the other part", x.told(5), 17);
+        PressHalls y = new PressHalls();
+        y.job(0, 0, 0);
+        due("no hours at all", y.told(11), 1);
     }
 
     static void p15Would() {
@@ -483,11 +498,32 @@ public final class PromiseTests {
         due("no jobs", new PressHalls().least(0, 0), NO);
         PressHalls y = new PressHalls();
         for (int i = 0; i < 6; i++) y.job(0, 0, 6 - i);
+        PressHalls z = modes();
+        due("WAY", z.least(0, 0), 11);
+        due("ROOM", z.least(1, 0), 12);
+        due("BLOCK", z.least(2, 0), 11);
         due("six, END", y.least(2, 0), 21);
         due("six, FLOW", y.least(2, 1), 56);
     }
 
+    /** By ROOM the second of these sets out at 10 behind the first one, or the first one at 1 behind the second. */
+    private static PressHalls modes() {
+        PressHalls x = new PressHalls();
+        x.job(0, 10, 1);
+        x.job(0, 1, 1);
+        return x;
+    }
+
     static void p19Best() {
+        due("WAY", modes().best(0, 0, 0), 1);
+        due("ROOM", modes().best(1, 0, 0), 0);
+        PressHalls z = new PressHalls();
+        z.job(0, 0, 5);
+        z.job(0, 0, 1);
+        z.job(5, 0, 0);
+        // By BLOCK job 1 would hold the first hall until 5: 0 1 2 ends at 10, 0 2 1 at 6.
+        due("WAY", z.best(0, 0, 1), 1);
+        due("BLOCK", z.best(2, 0, 1), 2);
         PressHalls x = small();
         // Orders 1 0 2, 1 2 0, 2 1 0 all end at 13.
         int[] byEnd = {1, 0, 2};
@@ -534,6 +570,12 @@ public final class PromiseTests {
         y.renew(0, 1, 30);
         y.renew(0, 2, 1);
         due("31 hours: behind one with more", y.slack(1), 0);
+        PressHalls z = new PressHalls();
+        z.job(0, 0, 30);
+        z.job(29, 0, 30);
+        due("otherwise by 30 more", z.slack(0), 29);
+        z.renew(1, 0, 30);
+        due("alike by 30 more", z.slack(0), 30);
     }
 
     static void p21See() {
@@ -622,6 +664,9 @@ public final class PromiseTests {
         y.job(0, 0, 0);
         due("0 by 2", y.mean(0), 0);
         due("0 by 2", y.mean(1), 1);
+        PressHalls z = new PressHalls();
+        z.job(1, 1, 1);
+        due("3 by 1", z.mean(0), 3);
         y.job(0, 0, 2);
         y.job(0, 0, 0);
         due("4 by 4", y.mean(1), 1);
@@ -804,12 +849,50 @@ public final class PromiseTests {
             due("the tape stays", x.peek(1, 0), 0);
             due("a new job", x.job(1, 2, 3), 3);
             due("is new", x.of(3, 5), 99);
+            due("is new", x.of(3, 3), 0);
+            due("is new", x.of(3, 4), 0);
+            x.renew(3, 3, 4);
+            x.renew(3, 4, 5);
+            x.renew(3, 5, 6);
             x.plan(2);
             x.renew(0, 3, 9);
             x.see(-1, 0);
             x.book(2, 2);
             x.set(1, 0);
         }
+        x.undo();
+        due("a new job", x.job(1, 2, 3), 3);
+        due("is new", x.of(3, 3), 0);
+        due("is new", x.of(3, 4), 0);
+        undoneRows();
+    }
+
+    private static void undoneRows() {
+        PressHalls x = small();
+        x.see(1, 1);
+        x.see(2, 0);
+        x.event(2, 0);
+        x.event(0, 1);
+        x.book(1, 1);
+        x.book(0, 2);
+        x.image();
+        x.see(-1, 0);
+        x.see(0, 3);
+        x.see(0, 4);
+        x.event(-1, 0);
+        x.event(3, 2);
+        x.event(2, 2);
+        x.book(-1, 0);
+        x.book(2, 4);
+        x.book(2, 2);
+        x.undo();
+        due("seen", x.fits(2, 0), 3);
+        due("events", x.after(0), 16);
+        due("book", x.looked(), 1);
+        x.move(0, 2);
+        due("book", x.looked(), 0);
+        x.move(1, 1);
+        due("book", x.looked(), -5);
     }
 
     static void p32Count() {
