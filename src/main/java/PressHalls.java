@@ -29,6 +29,9 @@ public final class PressHalls {
 
     private static final int TAPES = 6;
 
+    // No time, sum of times or lateness comes near to it.
+    private static final int ABOVE_ALL = 1_000_000;
+
     private final Shop now = new Shop();
     private final Rows seenRows = new Rows(MOST_SEEN);
     private final Rows eventRows = new Rows(MOST_EVENTS);
@@ -794,8 +797,8 @@ public final class PressHalls {
         int bound() {
             int allA = 0;
             int allB = 0;
-            int leastBehindA = Integer.MAX_VALUE;
-            int leastAheadOfB = Integer.MAX_VALUE;
+            int leastBehindA = ABOVE_ALL;
+            int leastAheadOfB = ABOVE_ALL;
             for (int job = 0; job < jobs; job++) {
                 int[] v = values[job];
                 allA += v[A];
@@ -842,7 +845,7 @@ public final class PressHalls {
             arrives = 0;
             ends = 0;
             flow = 0;
-            late = Integer.MIN_VALUE;
+            late = -ABOVE_ALL;
         }
 
         void press(int[] v, int mode) {
@@ -912,28 +915,28 @@ public final class PressHalls {
         void find(Shop shop, int byMode, int byAim) {
             mode = byMode;
             aim = byAim;
-            least = Integer.MAX_VALUE;
+            least = ABOVE_ALL;
             behind[0].open();
-            extend(shop, 0);
+            extend(this, shop, 0);
         }
 
         /** COST never falls by one JOB more, so what is not less already is left. */
-        private void extend(Shop shop, int depth) {
+        private static void extend(Search search, Shop shop, int depth) {
             if (depth >= shop.jobs || depth >= MOST_JOBS) {
-                least = behind[depth].costBy(aim);
-                System.arraycopy(tried, 0, found, 0, MOST_JOBS);
+                search.least = search.behind[depth].costBy(search.aim);
+                System.arraycopy(search.tried, 0, search.found, 0, MOST_JOBS);
                 return;
             }
-            Halls next = behind[depth + 1];
+            Halls next = search.behind[depth + 1];
             for (int job = 0; job < shop.jobs; job++) {
-                if (!used[job]) {
-                    next.goOnFrom(behind[depth]);
-                    next.press(shop.values[job], mode);
-                    if (next.costBy(aim) < least) {
-                        used[job] = true;
-                        tried[depth] = job;
-                        extend(shop, depth + 1);
-                        used[job] = false;
+                if (!search.used[job]) {
+                    next.goOnFrom(search.behind[depth]);
+                    next.press(shop.values[job], search.mode);
+                    if (next.costBy(search.aim) < search.least) {
+                        search.used[job] = true;
+                        search.tried[depth] = job;
+                        extend(search, shop, depth + 1);
+                        search.used[job] = false;
                     }
                 }
             }

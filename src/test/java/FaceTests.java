@@ -94,7 +94,7 @@ public final class FaceTests {
         String all = Files.readString(Path.of("src/main/java/PressHalls.java"));
         String code = all.replaceAll("(?s)/\\*.*?\\*/", "").replaceAll("//[^\n]*", "");
         String[] words = {"throw", "throws", "try", "catch", "synchronized", "assert", "package", "Exception", "Exact",
-            "double", "float", "System.out", "Random", "Thread", "nanoTime", "currentTimeMillis"};
+            "double", "float", "Integer", "System.out", "Random", "Thread", "nanoTime", "currentTimeMillis"};
         for (String word : words) {
             hold(!Pattern.compile("\\b" + Pattern.quote(word) + "\\b").matcher(code).find(), "no " + word);
         }
