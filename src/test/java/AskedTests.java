@@ -86,6 +86,11 @@ public final class AskedTests extends Sentences {
             "slack 0 : 28");
         says("(they may be above 30 so)",
             "job 30 0 30", "job 30 0 0", "slack 0 : 30", "renew 1 1 30", "slack 0 : 30", "renew 1 2 1", "slack 0 : 0");
+        // Job 1 leaves the FIRST LIST by 6 hours more; whether the order is another then hangs on M and B of job 2.
+        says("SLACK of a JOB: the greatest r (0 .. 30) such that by no hours 1 .. r more of its A (they may be above 30 so) "
+                + "ORDERS by LISTS would be otherwise.",
+            "job 2 1 9", "job 4 0 9", "job 9 0 3", "slack 0 ! 1 30 30 NONE", "renew 2 1 7", "slack 0 ! 1 5 30",
+            "renew 2 1 6", "slack 0 ! 1 30 30");
         says("(they may be above 30 so)",
             "job 30 30 1", "job 29 0 30", "ruled 1 0 : 1 0", "slack 1 : 1", "renew 0 1 29", "slack 1 : 1",
             "renew 0 1 28", "slack 1 : 30");
@@ -151,7 +156,8 @@ public final class AskedTests extends Sentences {
     }
 
     private static void books() {
-        says("A BOOK told by hand: JOBS, places (8 rows at most)",
+        says("A BOOK told by hand: JOBS, places (8 rows at most): LOOKED at: the number (from 0) of the first of these rows "
+                + "that is otherwise in the PLAN (-5: none).",
             "looked ! -5", "job 0 0 0", "book 0 0 : 1", "book 0 0 : 2", "book 0 0 : 3", "book 0 0 : 4", "book 0 0 : 5",
             "book 0 0 : 6", "book 0 0 : 7", "looked ! -5", "book 0 1 : 8", "looked ! 7", "book 0 0 ! FULL",
             "book -1 0 : 0", "looked ! -5");
@@ -178,7 +184,7 @@ public final class AskedTests extends Sentences {
             "peek 0 0 ! NO", "peek 5 0 ! NO", "item 0 0 1 ! NOTHING", "item 5 0 1 ! NOTHING", "peek 6 0 ! NO",
             "peek -1 0 ! NO", "item 6 0 1 ! NONE", "item -1 0 1 ! NONE", "tape 0 0 1 : 1", "tape 5 0 1 : 1",
             "tape 6 0 1 ! NONE", "tape -1 0 1 ! NONE");
-        says("a row of 0 bytes, 1 shorts, 2 ints, 3 longs, 4 booleans (items 0, 1)",
+        says("TAPES 0 .. 5 hold nothing (at first), or a row of 0 bytes, 1 shorts, 2 ints, 3 longs, 4 booleans (items 0, 1).",
             "tape 0 0 2", "tape 1 1 2", "tape 2 2 2", "tape 3 3 2", "tape 4 4 2", "item 0 0 127", "item 0 1 128",
             "peek 0 0 : 127 -128 NO", "item 1 0 32767", "item 1 1 32768", "peek 1 0 : 32767 -32768 NO",
             "item 2 0 2147483647", "item 2 1 2147483648", "peek 2 0 : MOST LEAST NO", "item 3 0 9223372036854775807",
@@ -198,9 +204,21 @@ public final class AskedTests extends Sentences {
             "item 0 1 6", "judge 0 1 ! 101", "judge 0 0 ! 1");
         says("JUDGED",
             "job 0 0 0", "tape 5 1 60", "judge 5 59 ! -5 100", "judge 5 0 ! -5", "item 5 59 1", "judge 5 59 ! 0");
-        says("NOTHING (-11): nothing is there; CAST (-12): another sort; PLACE (-13): no such place; SIZE (-14): a size "
-                + "below 0.",
+        says("The host's refusals: NOTHING (-11): nothing is there; CAST (-12): another sort; PLACE (-13): no such place; SIZE "
+                + "(-14): a size below 0.",
             "item 0 0 0 ! -11", "tape 0 2 1", "judge 0 0 ! -12", "item 0 1 0 ! -13", "tape 0 2 -1 ! -14");
+    }
+
+    private static void numbersOfTheAnswers() {
+        says("Answers: NONE (-1) no such number; BAD (-2) a number is not as told; STATE (-3) as told; FULL (-4); the first "
+                + "that a call's words name.",
+            "of 0 0 ! -1", "job 0 0 31 ! -2", "plan 4 ! -2", "plan 0 ! -3", "step 0 1 ! -3", "undo ! -3", "job 0 0 0",
+            "job 0 0 0", "job 0 0 0", "job 0 0 0", "job 0 0 0", "job 0 0 0", "job 0 0 0 ! -4", "job 31 0 0 ! -2",
+            "move 6 6 ! -1", "move 5 6 ! -2", "renew 6 0 31 ! -1", "renew 5 0 31 ! -2");
+        says("The constants: `NO = Long.MIN_VALUE`: There is no such number.",
+            "time 0 0 ! -9223372036854775808", "told 3 ! -9223372036854775808", "would 0 ! -9223372036854775808",
+            "cost 0 0 0 ! -9223372036854775808", "least 0 0 ! -9223372036854775808", "odds 0 0 ! -9223372036854775808",
+            "mean 0 ! -9223372036854775808", "after 0 ! -9223372036854775808", "peek 0 0 ! -9223372036854775808");
     }
 
     /** Each pair of refusals that one call can meet at once. */
@@ -224,7 +242,7 @@ public final class AskedTests extends Sentences {
             "shift 0 -1 0 0 0 ! PLACE");
     }
 
-    public static void main(String[] args) {
+    static void all() {
         changesNothing();
         best();
         boundWaitedTurn();
@@ -236,7 +254,12 @@ public final class AskedTests extends Sentences {
         books();
         theImage();
         tapesAndJudging();
+        numbersOfTheAnswers();
         theFirstNamed();
+    }
+
+    public static void main(String[] args) {
+        all();
         end("AskedTests");
     }
 }

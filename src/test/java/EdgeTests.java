@@ -18,6 +18,11 @@ public final class EdgeTests extends Sentences {
     }
 
     private static void renewAndOf() {
+        says("Of a JOB what 0 A, 1 M, 2 B, 3 CLEANING of the first, 4 of the second hall, 5 DUE becomes v: what it was.",
+            "job 4 5 6", "job 1 1 1", "time 0 0 : 0 4 4 9 9 15 -84", "renew 0 0 7 : 4", "time 0 1 : 7 7 12 12 18 -81",
+            "renew 0 1 2 : 5", "time 0 1 : 7 7 9 9 15 -84", "renew 0 2 3 : 6", "time 0 4 : 9 12 -87",
+            "time 1 0 : 7 8 8 9 12 13", "renew 0 3 9 : 0", "time 1 0 : 16 17 17 18 18 19", "renew 0 4 8 : 0",
+            "time 1 0 : 16 17 17 18 20 21", "renew 0 5 10 : 99", "time 0 6 : 2");
         says("becomes v: what it was.",
             "job 1 2 3", "renew 0 0 1 ! 1", "renew 0 5 99 ! 99", "renew 0 0 0 : 1", "renew 0 1 30 : 2",
             "renew 0 2 29 : 3", "renew 0 3 9 : 0", "renew 0 4 8 : 0", "renew 0 5 0 : 99", "of 0 0 : 0 30 29 9 8 0 0");
@@ -46,7 +51,7 @@ public final class EdgeTests extends Sentences {
         says("comes behind THE TEXT's",
             SOME, "feed 128 ! BAD", "feed 59 : 22", "feed 109 : 23", "feed 48 : 24", "read : 6", "told 1 : 0");
         says("BAD; FULL.", FILLED, "feed 48 ! FULL", "feed 0 ! FULL", "feed 127 ! FULL", "feed -1 ! BAD", "feed 128 ! BAD");
-        says("THE TEXT, which is empty then (by a FAULT, too)",
+        says("THE TEXT, which is empty then (by a FAULT, too), is a set-up: how many CLAUSES were done; -10 less the FAULT.",
             "read ! -10", "text m1;x : 4", "read : -13", "count 4 : 0", "read ! -10", "text m1 : 2", "read : 1",
             "count 4 : 0", "read ! -10", "text j31,0,0 : 7", "read : 0", "count 4 : 0", "told 0 : 0 1");
         says("how many CLAUSES were done; -10 less the FAULT",
@@ -97,6 +102,9 @@ public final class EdgeTests extends Sentences {
         says("6 LATENESS. NO: job, what.",
             "time 0 0 ! NO", "job 0 0 0", "time 0 0 ! 0 0 0 0 0 0 -99 NO", "time 0 -1 ! NO", "time 1 0 ! NO",
             "time -1 0 ! NO", "time 0 MOST ! NO", "time LEAST 0 ! NO");
+        says("Of a JOB by the PLAN what 0 BEGINS, 1 DONE, 2 LEAVES, 3 ARRIVES, 4 BEGINS AGAIN, 5 ENDS, 6 LATENESS.",
+            "set 0 2", "job 1 1 9", "job 3 2 1", "renew 1 5 5", "time 0 0 ! 0 1 1 2 2 11 -88 NO",
+            "time 1 0 ! 1 4 9 6 11 12 7 NO");
         says("Of a JOB by the PLAN",
             SOME, "time 0 0 ! 0 4 4 6 6 12 -87 NO", "time 3 0 ! 5 7 7 12 12 15 -84 NO",
             "time 1 0 ! 7 10 14 11 15 24 -75 NO", "time 2 0 ! 14 22 26 22 26 28 8 NO", "time 4 0 ! NO");
@@ -310,7 +318,7 @@ public final class EdgeTests extends Sentences {
         says("An object is used for at most 512 calls after it has been made", lines);
     }
 
-    public static void main(String[] args) {
+    static void all() {
         newObjectAndJob();
         renewAndOf();
         setFeedRead();
@@ -328,6 +336,10 @@ public final class EdgeTests extends Sentences {
         tapeItem();
         peekShift();
         manyCalls();
+    }
+
+    public static void main(String[] args) {
+        all();
         end("EdgeTests");
     }
 }

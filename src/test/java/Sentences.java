@@ -51,8 +51,12 @@ abstract class Sentences {
         "tape 5 3 60", "item 5 59 8", "image", "plan 2", "renew 5 4 9", "set 0 1", "set 1 1",
         "text c012;c112;d07;j1,1,1;j11,11,11;j11,11,11;j11,11,11;j11,11,11;j11,11,11;j11,11,11;j11,11,11;j11,11,11"};
 
+    /** Every sentence held so far, as it was told. */
+    static final List<String> QUOTED = new ArrayList<>();
+    /** For a look at the sentences alone: their runs are left then. */
+    static boolean quotesOnly = false;
+
     private static String sentence = "";
-    private static int sentences = 0;
     private static int answers = 0;
     private static int wrong = 0;
 
@@ -148,7 +152,8 @@ abstract class Sentences {
     /** The document says these words, so this run of calls goes so. */
     static void says(String words, String... run) {
         sentence = words;
-        sentences++;
+        QUOTED.add(words);
+        if (quotesOnly) return;
         List<Line> lines = linesOf(run);
         Called object = new Called();
         for (int at = 0; at < lines.size(); at++) {
@@ -224,7 +229,7 @@ abstract class Sentences {
     }
 
     static void end(String test) {
-        System.out.println(test + ": " + sentences + " runs, " + answers + " answers, " + wrong + " wrong");
+        System.out.println(test + ": " + QUOTED.size() + " runs, " + answers + " answers, " + wrong + " wrong");
         if (wrong != 0) System.exit(1);
     }
 }

@@ -48,7 +48,7 @@ public final class TermsTests extends Sentences {
     }
 
     private static void timesOfTheFirstHall() {
-        says("a JOB BEGINS as soon as the first hall is free (0 at first); it is DONE A later.",
+        says("TIMES of an order, JOB by JOB: a JOB BEGINS as soon as the first hall is free (0 at first); it is DONE A later.",
             "job 0 0 0", "job 5 0 0", "job 0 0 0", "time 0 0 : 0 0", "time 1 0 : 0 5", "time 2 0 : 5 5");
         says("by ROOM M behind the later of DONE and what the JOB ahead of it ARRIVES",
             "set 0 1", "job 2 3 0", "job 3 1 0", "time 0 3 : 5", "time 1 1 : 5", "time 1 3 : 6", "renew 1 0 2",
@@ -78,7 +78,7 @@ public final class TermsTests extends Sentences {
     }
 
     private static void costs() {
-        says("END: the latest ENDS",
+        says("COST of an order by AIM: END: the latest ENDS",
             "job 1 1 5", "job 0 0 0", "told 3 : 7", "swap 0", "told 3 : 7", "renew 0 2 0", "told 3 : 2", "swap 0",
             "told 3 : 2");
         says("FLOW: all ENDS together",
@@ -90,11 +90,11 @@ public final class TermsTests extends Sentences {
     }
 
     private static void orders() {
-        says("0 COME: as they come.",
+        says("ORDERS by a RULE: 0 COME: as they come.",
             "job 9 0 0", "job 1 0 0", "job 5 0 0", "move 2 0", "ruled 0 0 ! 0 1 2 NONE", "plan 0 : 3",
             "at 0 : 0 1 2");
-        says("the FIRST LIST, JOBS with A not above B, by A and M together, the least first; then all others by M and B "
-                + "together, the greatest first",
+        says("1 LISTS: the FIRST LIST, JOBS with A not above B, by A and M together, the least first; then all others by M "
+                + "and B together, the greatest first.",
             "job 5 0 4", "job 5 9 5", "job 6 0 5", "job 0 13 0", "job 30 30 0", "job 30 30 30", "told 12 : 3",
             "ruled 1 0 ! 3 1 5 4 2 0 NONE");
         says("JOBS with A not above B",
@@ -219,7 +219,7 @@ public final class TermsTests extends Sentences {
             SOME, "read : 5", "read j1,1,1;j2,2,2;j3,3,3 : 1", "count 0 : 6", "of 5 0 : 1 1 1", "read j1,1,1 : 0");
     }
 
-    public static void main(String[] args) {
+    static void all() {
         jobsAndTheirNumbers();
         modeAimPlan();
         timesOfTheFirstHall();
@@ -230,6 +230,10 @@ public final class TermsTests extends Sentences {
         textsThatAreSetUps();
         textsWithAFault();
         clausesDone();
+    }
+
+    public static void main(String[] args) {
+        all();
         end("TermsTests");
     }
 }
